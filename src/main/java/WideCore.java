@@ -519,9 +519,9 @@ public final class WideCore {
             }
             int value = mode == Operands.IMM ? operands.nextValue(wide) : bus.readValue(operands.place(mode), wide);
             switch (kind) {
-                case ORA -> r.loadA(r.c | value);
-                case AND -> r.loadA(r.c & value);
-                case EOR -> r.loadA(r.c ^ value);
+                case ORA -> r.loadA(r.a() | value);
+                case AND -> r.loadA(r.a() & value);
+                case EOR -> r.loadA(r.a() ^ value);
                 case ADC -> addToA(value);
                 case LDA -> r.loadA(value);
                 case CMP -> compare(r.a(), value, wide);

@@ -141,12 +141,15 @@ public final class OperationsTest {
         row("ASL, 0 comes in", "p=35 m020=40", "06 20", "m020=80 p=B4 t=020,020!");
         row("ASL wide", "p=14 m020=0180", "06 20", "m020=0200 p=15 t=020,021,020!,021!");
         row("ROL", "p=35 m020=80", "26 20", "m020=01 p=35 t=020,020!");
+        row("ROL of many bits", "p=35 m020=2B", "26 20", "m020=57 p=34 t=020,020!");
         row("ROL to 0", "p=34 m020=80", "26 20", "m020=00 p=37 t=020,020!");
         row("ROL wide", "p=15 m020=0080", "26 20", "m020=0100 p=15 t=020,021,020!,021!");
         row("LSR", "m020=01", "46 20", "m020=00 p=37 t=020,020!");
         row("LSR, 0 comes in", "p=B5 m020=80", "46 20", "m020=40 p=34 t=020,020!");
         row("LSR wide", "p=14 m020=0101", "46 20", "m020=8000 p=15 t=020,021,020!,021!");
         row("ROR", "p=35 m020=00", "66 20", "m020=80 p=B4 t=020,020!");
+        row("ROR of many bits", "p=34 m020=D7", "66 20", "m020=6B p=35 t=020,020!");
+        row("ROR, 0 comes in", "p=34 m020=D6", "66 20", "m020=6B t=020,020!");
         row("ROR both", "p=35 m020=01", "66 20", "m020=80 p=B5 t=020,020!");
         row("ROR wide", "p=15 m020=0100", "66 20", "m020=0080 p=95 t=020,021,020!,021!");
     }
@@ -160,6 +163,8 @@ public final class OperationsTest {
         row("LSR A wide", "p=15 c=0100", "4A", "c=0080 p=14");
         row("ROR A", "p=35 c=7700", "6A", "c=7780 p=B4");
         row("ROR A wide", "p=15 c=0001", "6A", "c=8000 p=95");
+        row("ROL A of many bits", "p=15 c=2B35", "2A", "c=566B p=14");
+        row("ROR A of many bits", "p=14 c=D62B", "6A", "c=6B15 p=15");
         row("INC A", "p=35 c=77FF", "1A", "c=7700 p=37");
         row("INC A wide", "p=14 c=00FF", "1A", "c=0100");
         row("INC A wide wraps", "p=14 c=FFFF", "1A", "c=0000 p=16");
