@@ -19,6 +19,9 @@ public final class PlacesTest {
         farPointers();
         onStack();
         immediate();
+        edgesInBank0();
+        edgesOfIndexedPlaces();
+        edgesOfPointers();
         ROWS.end();
     }
 
@@ -108,6 +111,74 @@ public final class PlacesTest {
         ROWS.row("the width of A is not that of X", "p=24", "A9 5A", "c=005A");
         ROWS.row("IMM across the end of the bank", "p=14 pb=02 pc=FFFE m200=99", "A9 5A 12", "c=125A pc=0001");
         ROWS.row("IMM across the end of an odd bank", "pb=03 pc=FFFF", "A9 5A", "c=005A pc=0001");
+    }
+
+    /** Sums in bank 0 are addresses: the first place, the last one, the first beyond it, the greatest sum. */
+    private static void edgesInBank0() {
+        mode("DIR, first", 0x05, "d=0000 db=01", "00", "", "000", "001", false);
+        mode("DIR, last", 0x05, "d=FF00 db=01", "FF", "", "1FF", "000", false);
+        mode("DIR, beyond", 0x05, "d=FF01 db=01", "FF", "", "000", "001", false);
+        mode("DIR, greatest", 0x05, "d=FFFF db=01", "FF", "", "0FE", "0FF", false);
+        mode("DIRX, first", 0x15, "d=0000 x=00 db=01", "00", "", "000", "001", false);
+        mode("DIRX, last", 0x15, "d=FE01 x=FF db=01", "FF", "", "1FF", "000", false);
+        mode("DIRX, beyond", 0x15, "d=FE02 x=FF db=01", "FF", "", "000", "001", false);
+        mode("DIRX, greatest, narrow", 0x15, "d=FFFF x=FF db=01", "FF", "", "1FD", "1FE", false);
+        mode("DIRX, greatest", 0x15, "d=FFFF x=FFFF db=01", "FF", "", "0FD", "0FE", true);
+        mode("DIRX, least X", 0x15, "d=0100 x=0000 db=01", "23", "", "123", "124", true);
+        mode("STACK, first", 0x03, "s=0000 db=01", "00", "", "000", "001", false);
+        mode("STACK, last", 0x03, "s=FF00 db=01", "FF", "", "1FF", "000", false);
+        mode("STACK, beyond", 0x03, "s=FF01 db=01", "FF", "", "000", "001", false);
+        mode("STACK, greatest", 0x03, "s=FFFF db=01", "FF", "", "0FE", "0FF", false);
+    }
+
+    /** Sums of a bank and an address are long numbers: the same edges at the end of a bank and of all banks. */
+    private static void edgesOfIndexedPlaces() {
+        indexed("ABSX", 0x1D, "x", "", "%s", "");
+        indexed("ABSY", 0x19, "y", "", "%s", "");
+        indexed("LONGX", 0x1F, "x", "", "%s%s", "");
+        indexed("INDY", 0x11, "y", "d=0100 m120=%s", "20", "120,121");
+        indexed("FARY", 0x17, "y", "d=0100 m120=%s%s", "20", "120,121,122");
+        indexed("STACKY", 0x13, "y", "s=0100 m120=%s", "20", "120,121");
+        mode("ABS, last word of a bank", 0x0D, "db=00", "FE FF", "", "1FE", "1FF", false);
+        mode("LONG, first", 0x0F, "db=01", "00 00 00", "", "000", "001", false);
+        mode("LONG, last byte", 0x0F, "db=00", "FE FF FF", "", "3FE", "3FF", false);
+    }
+
+    /** The texts have room for an address and, if the place is a long one, its bank, the lowest byte first. */
+    private static void indexed(String name, int m, String index, String setup, String operand, String pointers) {
+        String[][] edges = {
+            {"first", "00", "0000", "00", "000", "001"}, {"last of a bank", "02", "00FF", "FF", "1FF", "200"},
+            {"beyond a bank", "02", "01FF", "FF", "200", "201"}, {"last of an odd bank", "03", "00FF", "FF", "3FF", "000"},
+            {"beyond an odd bank", "03", "01FF", "FF", "000", "001"}, {"last of all", "FF", "00FF", "FF", "3FF", "000"},
+            {"beyond all", "FF", "01FF", "FF", "000", "001"}, {"greatest, narrow", "FF", "FFFF", "FF", "0FE", "0FF"},
+            {"greatest of a bank", "02", "FFFF", "FFFF", "3FE", "3FF"}, {"greatest", "FF", "FFFF", "FFFF", "1FE", "1FF"}};
+        for (String[] edge : edges) {
+            String where = String.format(setup, edge[2], edge[1]) + " db=" + edge[1] + " " + index + "=" + edge[3];
+            mode(name + ", " + edge[0], m, where, String.format(operand, edge[2], edge[1]), pointers,
+                    edge[4], edge[5], edge[3].length() == 4);
+        }
+    }
+
+    /** The bytes of a pointer are in bank 0, where their addresses wrap; what it points to is a long number. */
+    private static void edgesOfPointers() {
+        mode("IND, pointer beyond", 0x12, "d=FF01 db=01 m000=3402", "FF", "000,001", "234", "235", false);
+        mode("IND, greatest pointer", 0x12, "d=FFFF db=01 m0FE=3402", "FF", "0FE,0FF", "234", "235", false);
+        mode("IND, last of all", 0x12, "d=0100 db=FF m120=FFFF", "20", "120,121", "3FF", "000", false);
+        mode("INDX, pointer beyond", 0x01, "d=FE02 x=FF db=01 m000=3402", "FF", "000,001", "234", "235", false);
+        mode("INDX, greatest pointer", 0x01, "d=FFFF x=FFFF db=01 m0FD=3402", "FF", "0FD,0FE", "234", "235", true);
+        mode("INDX, last of a bank", 0x01, "d=0100 x=10 db=02 m130=FFFF", "20", "130,131", "1FF", "200", false);
+        mode("INDX, last of all", 0x01, "d=0100 x=10 db=FF m130=FFFF", "20", "130,131", "3FF", "000", false);
+        mode("INDY, pointer last", 0x11, "d=FF00 db=01 y=10 m1FF=24 m000=01 m200=77", "FF", "1FF,000", "334", "335", false);
+        mode("INDY, pointer beyond", 0x11, "d=FF01 db=01 y=10 m000=2401", "FF", "000,001", "334", "335", false);
+        mode("FAR, pointer beyond", 0x07, "d=FF01 m000=340205", "FF", "000,001,002", "234", "235", false);
+        mode("FAR, greatest pointer", 0x07, "d=FFFF m0FE=340205", "FF", "0FE,0FF,100", "234", "235", false);
+        mode("FAR, last of all", 0x07, "d=0100 m120=FFFFFF", "20", "120,121,122", "3FF", "000", false);
+        mode("FARY, pointer wraps", 0x17, "d=FFF0 y=10 m1FE=2401 m000=05 m200=04",
+                "0E", "1FE,1FF,000", "334", "335", false);
+        mode("FARY, pointer wraps earlier", 0x17, "d=FFF0 y=10 m1FF=24 m000=0105 m200=7704",
+                "0F", "1FF,000,001", "334", "335", false);
+        mode("STACKY, pointer beyond", 0x13, "s=FF01 db=01 y=10 m000=2401", "FF", "000,001", "334", "335", false);
+        mode("STACKY, greatest pointer", 0x13, "s=FFFF db=01 y=10 m0FE=2401", "FF", "0FE,0FF", "334", "335", false);
     }
 
     /** The code stands at 0040, where no place of these rows is. */

@@ -11,6 +11,7 @@ import java.util.TreeMap;
  *   m040=0102              cell 040 holds 01, cell 041 holds 02
  *   n=3                    three steps (in the expected part; one if not named)
  *   stops                  the machine has stopped
+ *   nmi irq                a NMI, an IRQ is called for (in the setup)
  *   t=040,041!             the touched cells, the earliest first, ! if written
  * A register, cell or touch that the expected part doesn't name must be as before; PC, if not named,
  * is behind the code.
@@ -80,6 +81,10 @@ final class Rows {
         for (int i = 0; i < 6; i++) {
             core.set(i, number(before, NAMES[i], core.register(i)));
         }
+        if (before.containsKey("nmi")) {
+            core.interrupt();
+        }
+        core.line(before.containsKey("irq"));
         return core;
     }
 
@@ -145,7 +150,7 @@ final class Rows {
     }
 
     private static boolean known(String key) {
-        return List.of(NAMES).contains(key) || List.of("n", "t", "stops").contains(key)
+        return List.of(NAMES).contains(key) || List.of("n", "t", "stops", "nmi", "irq").contains(key)
                 || key.matches("m[0-9A-F]{3}");
     }
 
