@@ -136,6 +136,20 @@ public final class CallsTest {
         }), want);
     }
 
+    /** Nothing but a step, interrupt and line changes what is called for. */
+    private static void leavesWhatIsCalledFor(String name, Call call) {
+        for (Sight.Calls state : STATES) {
+            Map<String, Integer> want = Sight.later(state);
+            Map<String, Integer> got = Sight.later(core -> {
+                state.on(core);
+                call.on(core);
+            });
+            for (String key : new String[] {"a NMI can be called for", "started, then 1: PC", "started, then 2: PC"}) {
+                ROWS.due(name + ", then " + key, got.get(key), want.get(key));
+            }
+        }
+    }
+
     private static void compare(String name, Map<String, Integer> got, Map<String, Integer> want) {
         ROWS.due(name + ": how much is seen", got.size(), want.size());
         for (Map.Entry<String, Integer> entry : want.entrySet()) {
@@ -176,6 +190,7 @@ public final class CallsTest {
                 poke(300, b, n);
             }
         }
+        leavesWhatIsCalledFor("poke(300, -1, 4)", core -> number(core.poke(300, -1, 4)));
     }
 
     private static void poke(int cell, int b, int n) {
@@ -235,6 +250,8 @@ public final class CallsTest {
                     changes("start(" + bank + ", " + address + ")", state, 1,
                             core -> number(core.start(bank, address)), changed);
                 }
+                leavesWhatIsCalledFor("start(" + bank + ", " + address + ")",
+                        core -> number(core.start(bank, address)));
             }
         }
     }
@@ -269,6 +286,8 @@ public final class CallsTest {
                 set(names[what], what, value, what == 5 || index ? 256 : 65536, CallsTest::called);
                 set(names[what], what, value, what == 5 ? 256 : 65536, CallsTest::halted);
             }
+            int register = what;
+            leavesWhatIsCalledFor("set(" + what + ", 0x100)", core -> number(core.set(register, 0x100)));
         }
     }
 
@@ -285,6 +304,8 @@ public final class CallsTest {
         for (int value = 0; value < 256; value++) {
             setP(value);
         }
+        leavesWhatIsCalledFor("set(6, 255)", core -> number(core.set(6, 255)));
+        leavesWhatIsCalledFor("set(6, 0)", core -> number(core.set(6, 0)));
     }
 
     private static void setP(int value) {

@@ -231,6 +231,7 @@ public final class OperationsTest {
         row("push DB", "db=12 s=0150", "8B", "m150=12 s=014F t=150!");
         row("push PB", "pb=07 s=0150", "4B", "m150=07 s=014F t=150!");
         row("push D", "d=1234 s=0150", "0B", "m150=12 m14F=34 s=014E t=150!,14F!");
+        row("push a word onto its operand", "pc=0140 s=0142", "F4 34 12", "m142=12 m141=34 s=0140 t=142!,141!");
         row("push a word", "s=0150", "F4 34 12", "m150=12 m14F=34 s=014E t=150!,14F!");
     }
 
@@ -278,6 +279,9 @@ public final class OperationsTest {
                 "m150=00 m14F=00 s=014E pc=1234 t=150!,14F!");
         row("long call", "pb=05 pc=0110 s=0150", "22 34 12 06",
                 "m150=05 m14F=01 m14E=13 s=014D pb=06 pc=1234 t=150!,14F!,14E!");
+        row("call onto its operand", "pc=0140 s=0142", "20 34 12", "m142=01 m141=42 s=0140 pc=1234 t=142!,141!");
+        row("long call onto its operand", "pc=0140 s=0143", "22 34 12 06",
+                "m143=00 m142=01 m141=43 s=0140 pb=06 pc=1234 t=143!,142!,141!");
         row("return", "pb=05 s=014E m14F=1201", "60", "pc=0113 s=0150 t=14F,150");
         row("return wraps", "s=014E m14F=FFFF", "60", "pc=0 s=0150 t=14F,150");
         row("long return", "s=014D m14E=130105", "6B", "pc=0114 pb=05 s=0150 t=14E,14F,150");

@@ -125,6 +125,10 @@ public final class PlacesTest {
         mode("DIRX, greatest, narrow", 0x15, "d=FFFF x=FF db=01", "FF", "", "1FD", "1FE", false);
         mode("DIRX, greatest", 0x15, "d=FFFF x=FFFF db=01", "FF", "", "0FD", "0FE", true);
         mode("DIRX, least X", 0x15, "d=0100 x=0000 db=01", "23", "", "123", "124", true);
+        mode("DIR, word beyond a page", 0x05, "d=0100 db=01", "FF", "", "1FF", "000", false);
+        mode("DIRX, beyond a page", 0x15, "d=0100 x=FF db=01", "81", "", "080", "081", false);
+        mode("DIRX, beyond a page, wide X", 0x15, "d=0100 x=00FF db=01", "81", "", "080", "081", true);
+        mode("STACK, beyond a page", 0x03, "s=01F0 db=01", "20", "", "010", "011", false);
         mode("STACK, first", 0x03, "s=0000 db=01", "00", "", "000", "001", false);
         mode("STACK, last", 0x03, "s=FF00 db=01", "FF", "", "1FF", "000", false);
         mode("STACK, beyond", 0x03, "s=FF01 db=01", "FF", "", "000", "001", false);
@@ -164,6 +168,15 @@ public final class PlacesTest {
         mode("IND, pointer beyond", 0x12, "d=FF01 db=01 m000=3402", "FF", "000,001", "234", "235", false);
         mode("IND, greatest pointer", 0x12, "d=FFFF db=01 m0FE=3402", "FF", "0FE,0FF", "234", "235", false);
         mode("IND, last of all", 0x12, "d=0100 db=FF m120=FFFF", "20", "120,121", "3FF", "000", false);
+        mode("IND, pointer beyond a page", 0x12, "d=0000 db=01 m0FF=3402", "FF", "0FF,100", "234", "235", false);
+        mode("INDX, pointer beyond a page", 0x01, "d=0100 x=FF db=01 m080=3402", "81", "080,081", "234", "235", false);
+        mode("INDX, pointer over a page's end", 0x01, "d=0000 x=80 db=01 m0FF=3402",
+                "7F", "0FF,100", "234", "235", false);
+        mode("INDY, pointer over a page's end", 0x11, "d=0000 y=10 db=01 m0FF=2401",
+                "FF", "0FF,100", "334", "335", false);
+        mode("FAR, pointer over a page's end", 0x07, "d=0000 m0FF=340205", "FF", "0FF,100,101", "234", "235", false);
+        mode("STACKY, pointer over a page's end", 0x13, "s=0100 db=01 y=10 m1FF=24 m000=01",
+                "FF", "1FF,000", "334", "335", false);
         mode("INDX, pointer beyond", 0x01, "d=FE02 x=FF db=01 m000=3402", "FF", "000,001", "234", "235", false);
         mode("INDX, greatest pointer", 0x01, "d=FFFF x=FFFF db=01 m0FD=3402", "FF", "0FD,0FE", "234", "235", true);
         mode("INDX, last of a bank", 0x01, "d=0100 x=10 db=02 m130=FFFF", "20", "130,131", "1FF", "200", false);

@@ -10,6 +10,7 @@ public final class ResultsTest {
     public static void main(String[] args) {
         loads();
         bits();
+        bitsOfBoth();
         changesOfRegisters();
         changesOfMemory();
         transfersToIndex();
@@ -93,6 +94,37 @@ public final class ResultsTest {
         wide(0x14, "c=FFFF", "29 <V>", "c=<v>");
         narrow(0x24, "c=8000", "49 <V>", "c=80<v>");
         wide(0x14, "c=0000", "49 <V>", "c=<v>");
+    }
+
+    /** A becomes its bits or, and, exclusive or those of the operand: told bit by bit. */
+    private static void bitsOfBoth() {
+        for (int a : WORDS) {
+            for (int b : new int[] {0x0000, 0x0F5A, 0x8001, 0x55AA, 0xFFFF, 0xFF00, 0x00FF}) {
+                bitsOfBoth(a, b, WORD);
+                bitsOfBoth(a % BYTE, b % BYTE, BYTE);
+            }
+        }
+    }
+
+    private static void bitsOfBoth(int a, int b, int beyond) {
+        int inEither = 0;
+        int inBoth = 0;
+        for (int bit = 1; bit < beyond; bit *= 2) {
+            int count = a / bit % 2 + b / bit % 2;
+            inEither += count >= 1 ? bit : 0;
+            inBoth += count == 2 ? bit : 0;
+        }
+        bitsOfBoth("09", a, b, inEither, beyond);
+        bitsOfBoth("29", a, b, inBoth, beyond);
+        bitsOfBoth("49", a, b, inEither - inBoth, beyond);
+    }
+
+    private static void bitsOfBoth(String op, int a, int b, int result, int beyond) {
+        int widths = beyond == BYTE ? 0x24 : 0x14;
+        String above = beyond == BYTE ? "77" : "";
+        int flags = widths + (result >= beyond / 2 ? 128 : 0) + (result == 0 ? 2 : 0);
+        ROWS.row("bits", "c=" + above + digits(a, beyond) + " p=" + hex(widths), op + lowerFirst(b, beyond),
+                "c=" + above + digits(result, beyond) + " p=" + hex(flags));
     }
 
     /** INC and DEC, results, wrap. */
@@ -183,8 +215,8 @@ public final class ResultsTest {
                 String flags = String.format("p=%02X", p);
                 String digits = digits(value, WORD);
                 String cut = narrowIndex ? hex(value % 256) : digits;
-                ROWS.row("S = X", flags + " x=" + digits, "9A", "s=" + cut);
-                ROWS.row("S = C", flags + " c=" + digits, "1B", "s=" + digits);
+                ROWS.row("S = X", flags + " s=9133 x=" + digits, "9A", "s=" + cut);
+                ROWS.row("S = C", flags + " s=9133 c=" + digits, "1B", "s=" + digits);
                 ROWS.row("STA", flags + " c=" + digits, "85 80", stored(value, p / 32 % 2 == 1));
                 ROWS.row("STX", flags + " x=" + digits, "86 80", stored(value, narrowIndex));
                 ROWS.row("STY", flags + " y=" + digits, "84 80", stored(value, narrowIndex));

@@ -22,6 +22,7 @@ public final class StepsTest {
             String code = String.format("%02X", op);
             if (!KNOWN.contains(code + " ")) {
                 ROWS.row("stops", "pb=05 pc=0110", code, "stops");
+                ROWS.row("stops", "pb=05 pc=0110 p=CB c=1234 x=2345 y=3456 s=4567 d=5678 db=67", code, "stops");
                 continue;
             }
             WideCore core = new WideCore();

@@ -363,6 +363,9 @@ public final class WrapsTest {
             String cut = narrow ? " x=34 y=78" : "";
             String wide = "pb=05 pc=0040 c=9ABC x=1234 y=5678 s=0150 ";
             row("SEP", wide + "p=00", String.format("E2 %02X", p), "p=" + hex(p) + cut);
+            row("SEP of set bits", wide + "p=EF", String.format("E2 %02X", p), "p=" + hex(0xEF | p) + cut);
+            row("SEP of a narrow one", "pb=05 pc=0040 c=9ABC x=34 y=78 p=5A", String.format("E2 %02X", p),
+                    "p=" + hex(0x5A | p));
             row("REP", wide + "p=EF", String.format("C2 %02X", p), "p=" + hex(0xEF & ~p));
             row("REP of a narrow one", "pb=05 pc=0040 c=9ABC x=34 y=78 p=FF", String.format("C2 %02X", p), "p=" + hex(255 - p));
             row("PLP", wide + String.format("p=00 m151=%02X", p), "28", "s=151 t=151 p=" + hex(p) + cut);
